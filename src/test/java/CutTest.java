@@ -9,6 +9,7 @@ public final class CutTest {
         theHeadIsTorn();
         limitsOfTear();
         limitsOfKeep();
+        keepBelowNoneStillTears();
         nothingIsLeftOver();
         aSecondCutDoesNothing();
         CHECKS.finish();
@@ -109,6 +110,18 @@ public final class CutTest {
         disk.cut(keep, 0);
         CHECKS.due("cut(" + keep + ", 0), head", disk.poke(4, 0), keep > 6 ? 9 : 0);
         CHECKS.due("cut(" + keep + ", 0), open()", disk.open(), rows);
+    }
+
+    private static void keepBelowNoneStillTears() {
+        int[] below = {-1, Integer.MIN_VALUE};
+        for (int keep : below) {
+            CarDisk disk = new CarDisk(8);
+            Checks.rows(disk, 1, 2, 40);
+            disk.cut(keep, 7);
+            int[] torn = firstOf(Checks.rowSector(1, 1, 40), new int[64], 7);
+            CHECKS.dueSector("cut(" + keep + ", 7)", disk, 2, torn);
+            CHECKS.dueSector("cut(" + keep + ", 7)", disk, 3, new int[64]);
+        }
     }
 
     private static void nothingIsLeftOver() {
