@@ -22,11 +22,11 @@ final class Checks {
         }
     }
 
-    /** A whole sector of the disk, read by poking nothing into it (64 calls). */
+    /** A whole sector of the disk (64 calls). */
     void dueSector(String call, CarDisk disk, int sector, int[] want) {
         int[] got = new int[64];
         for (int i = 0; i < 64; i++) {
-            got[i] = disk.poke(sector * 64 + i, 0);
+            got[i] = octet(disk, sector, i);
         }
         due(call + ", sector " + sector, Arrays.toString(got), Arrays.toString(want));
     }
@@ -35,6 +35,13 @@ final class Checks {
         for (int octet : octets) {
             disk.add((byte) octet);
         }
+    }
+
+    void dueLog(String call, CarDisk disk, int... numbers) {
+        for (int n = 0; n < numbers.length; n++) {
+            due(call + ", log(" + n + ")", disk.log(n), numbers[n]);
+        }
+        due(call + ", behind the last", disk.log(numbers.length), 0);
     }
 
     static int row(CarDisk disk, int kind, int... octets) {
@@ -63,6 +70,34 @@ final class Checks {
             boolean byMachine = text != null && text.contains("out of bounds for length");
             return byMachine ? "thrown by the machine" : "throws";
         }
+    }
+
+    /** An octet of the disk, read by poking nothing into it. */
+    static int octet(CarDisk disk, int sector, int i) {
+        return disk.poke(sector * 64 + i, 0);
+    }
+
+    static int number(CarDisk disk, int sector) {
+        int number = 0;
+        for (int i = 0; i < 4; i++) {
+            number = number << 8 | octet(disk, sector, i);
+        }
+        return number;
+    }
+
+    /** The first octets of a write, and the others of what stood there before. */
+    static int[] torn(int[] written, int[] before, int tear) {
+        int[] result = before.clone();
+        System.arraycopy(written, 0, result, 0, tear);
+        return result;
+    }
+
+    /** A disk without rows whose next row has this number: a head tells of the one before. */
+    static CarDisk nextIs(int sectors, int number) {
+        CarDisk disk = new CarDisk(sectors);
+        lay(disk, 1, head(number - 1));
+        reopen(disk);
+        return disk;
     }
 
     static int sum(int... octets) {

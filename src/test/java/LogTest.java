@@ -3,36 +3,81 @@ public final class LogTest {
     private static final Checks CHECKS = new Checks();
 
     public static void main(String[] args) {
-        CarDisk disk = new CarDisk(8);
-        CHECKS.due("no rows", disk.log(0), 0);
-        Checks.rows(disk, 1, 2, 0);
-        CHECKS.due("rows that wait", disk.log(0), 0);
-        disk.sync();
-        CHECKS.due("log(0)", disk.log(0), 1);
-        CHECKS.due("log(1)", disk.log(1), 2);
-        int[] none = {-1, 2, 5, 6, 62, Integer.MIN_VALUE, Integer.MAX_VALUE};
-        for (int n : none) {
-            CHECKS.due("log(" + n + ")", disk.log(n), 0);
-        }
-        Checks.rows(disk, 1, 6, 0);
-        disk.sync();
-        CHECKS.due("the oldest", disk.log(0), 3);
-        CHECKS.due("the last", disk.log(5), 8);
-        CHECKS.due("behind the last", disk.log(6), 0);
-        disk.cut(0, 0);
-        CHECKS.due("closed", disk.log(0), 0);
-        disk.open();
-        CHECKS.due("opened", disk.log(0), 3);
-        numbersThatAreOnlyReadAsNone();
+        noRows();
+        theOldestIsTheFirst();
+        tooSmall();
+        tooLarge();
+        notThoseThatWait();
+        theRingWentRound();
+        aFullRing();
+        closed();
         CHECKS.finish();
     }
 
-    private static void numbersThatAreOnlyReadAsNone() {
+    private static CarDisk synced(int rows) {
         CarDisk disk = new CarDisk(8);
-        Checks.lay(disk, 0, Checks.head(1000000));
-        Checks.reopen(disk);
-        CHECKS.due("end", Checks.row(disk, 1, 1), 1000001);
-        CHECKS.due("sync()", disk.sync(), 1000001);
-        CHECKS.due("the number", disk.log(0), 1000001);
+        Checks.rows(disk, 1, rows, 0);
+        disk.sync();
+        return disk;
+    }
+
+    private static void noRows() {
+        CHECKS.dueLog("a new disk", new CarDisk(8));
+        CHECKS.dueLog("a head alone", synced(0));
+    }
+
+    /** "The NUMBER of the n-th ROW (from 0, the oldest) that was written" */
+    private static void theOldestIsTheFirst() {
+        CHECKS.dueLog("one row", synced(1), 1);
+        CHECKS.dueLog("two rows", synced(2), 1, 2);
+    }
+
+    /** "0 if there is none": too small. */
+    private static void tooSmall() {
+        dueNone(-1, -2, Integer.MIN_VALUE);
+    }
+
+    /** "0 if there is none": too large. */
+    private static void tooLarge() {
+        dueNone(2, 3, 5, 6, 62, Integer.MAX_VALUE);
+    }
+
+    private static void dueNone(int... others) {
+        CarDisk disk = synced(2);
+        for (int n : others) {
+            CHECKS.due("log(" + n + ") of two rows", disk.log(n), 0);
+        }
+    }
+
+    private static void notThoseThatWait() {
+        CarDisk disk = synced(1);
+        Checks.rows(disk, 1, 2, 0);
+        CHECKS.dueLog("two wait", disk, 1);
+        disk.sync();
+        CHECKS.dueLog("they are written", disk, 1, 2, 3);
+    }
+
+    private static void theRingWentRound() {
+        CarDisk disk = synced(2);
+        Checks.rows(disk, 1, 6, 0);
+        disk.sync();
+        CHECKS.dueLog("eight rows", disk, 3, 4, 5, 6, 7, 8);
+    }
+
+    private static void aFullRing() {
+        CHECKS.dueLog("five rows", synced(5), 1, 2, 3, 4, 5);
+        CHECKS.dueLog("six rows", synced(6), 1, 2, 3, 4, 5, 6);
+    }
+
+    /** "or the disk is CLOSED" */
+    private static void closed() {
+        CarDisk disk = synced(2);
+        disk.cut(0, 0);
+        CHECKS.due("closed", disk.log(0), 0);
+        CHECKS.due("closed", disk.log(1), 0);
+        CHECKS.due("closed, none", disk.log(-1), 0);
+        CHECKS.due("closed, none", disk.log(2), 0);
+        disk.open();
+        CHECKS.dueLog("opened", disk, 1, 2);
     }
 }
