@@ -16,7 +16,6 @@ public final class FaceTest {
         checks.finish();
     }
 
-
     private static Set<String> dueMethods() {
         return new TreeSet<>(Set.of(
             "public void CarDisk.add(byte)",

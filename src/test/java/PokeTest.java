@@ -1,6 +1,7 @@
 /** Promise 8: poke. */
 public final class PokeTest {
     private static final Checks CHECKS = new Checks();
+    private static final int[] SIZES = {8, 9, 16, 64};
 
     public static void main(String[] args) {
         theFirstAndTheLastPlace();
@@ -17,8 +18,6 @@ public final class PokeTest {
         closed();
         CHECKS.finish();
     }
-
-    private static final int[] SIZES = {8, 9, 16, 64};
 
     private static void theFirstAndTheLastPlace() {
         for (int sectors : SIZES) {
