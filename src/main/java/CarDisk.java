@@ -30,7 +30,7 @@ public final class CarDisk {
     private static final int FIRST_SUM = 1;
     private static final int SUM_FACTOR = -1028477379;
 
-    /** R of the document: 6 to 62, by the constructor, and so a safe divisor. */
+    /** R of the document: 6 to 62, by the constructor. */
     private final int ring;
     private final Sectors disk;
     /** The rows that wait, with room for one head behind them. */
@@ -197,7 +197,7 @@ public final class CarDisk {
 
     /** Which of the ring's places row number (1 or more) has. */
     private int slotOf(int number) {
-        return (number - 1) % ring;
+        return ring > 0 ? (number - 1) % ring : 0;
     }
 
     private int sectorOf(int number) {
